@@ -13,16 +13,19 @@ final class Check {
         }
     }
 
-    /** The call throws just this exception, and changes nothing that can be told. */
+    /** The call throws just this exception, by a throw of the program's own, and changes nothing that can be told. */
     void refused(String call, PurseWorld world, Class<? extends RuntimeException> want, Runnable body) {
         String before = Snapshot.of(world);
         Object got = "nothing";
+        String thrower = "nobody";
         try {
             body.run();
         } catch (RuntimeException e) {
             got = e.getClass();
+            thrower = e.getStackTrace()[0].getClassName();
         }
         due(call + " throws", got, want);
+        due(call + " is refused by", thrower, "PurseWorld");
         due("all that can be told after " + call, Snapshot.of(world), before);
     }
 
