@@ -4,11 +4,11 @@ import java.util.function.LongSupplier;
 /** Long runs of many calls, the same ones every time, on the program and on the model: all promises together. */
 public final class ModelRunsTest {
     private static final int RUNS = 400;
-    private static final int CALLS = 512;
+    private static final int CALLS = Run.MOST_CALLS;
     private static final Check check = new Check();
 
     private final Random random;
-    private final PurseWorld world = new PurseWorld();
+    private final Run world = new Run();
     private final PurseModel model = new PurseModel();
     /** How likely each kind of call is, so that some runs fill the messages, others the archive. */
     private final int[] weights;
